@@ -67,7 +67,7 @@ public final class Prereqs {
 
     // Courses and students
 
-    public int addCourse(int credits, int seats) {
+    public int addCourse(int credits, int seats) throws IllegalArgumentException, IllegalStateException {
         if (!isWithin(credits, 1, MOST_CREDITS) || !isWithin(seats, 1, MOST_SEATS)) {
             throw new IllegalArgumentException("credits or seats are out of range");
         }
@@ -78,7 +78,7 @@ public final class Prereqs {
         return courses.size() - 1;
     }
 
-    public int addStudent(int major) {
+    public int addStudent(int major) throws IllegalArgumentException, IllegalStateException {
         checkMajor(major);
         if (students.size() >= MOST_STUDENTS) {
             throw new IllegalStateException("there are as many students as there can be");
@@ -87,7 +87,8 @@ public final class Prereqs {
         return students.size() - 1;
     }
 
-    public int changeMajor(int student, int major) {
+    public int changeMajor(int student, int major)
+            throws IndexOutOfBoundsException, IllegalArgumentException {
         Student changer = studentAt(student);
         checkMajor(major);
         int before = changer.major;
@@ -96,11 +97,12 @@ public final class Prereqs {
         return before;
     }
 
-    public int majorOf(int student) {
+    public int majorOf(int student) throws IndexOutOfBoundsException {
         return studentAt(student).major;
     }
 
-    public int reserve(int course, int major, int seats) {
+    public int reserve(int course, int major, int seats)
+            throws IndexOutOfBoundsException, IllegalArgumentException, IllegalStateException {
         Course reserving = courseAt(course);
         checkMajor(major);
         if (seats < 0) {
@@ -117,20 +119,21 @@ public final class Prereqs {
 
     // Formulas
 
-    public int markFormula(int course, int mark) {
+    public int markFormula(int course, int mark)
+            throws IndexOutOfBoundsException, IllegalArgumentException, IllegalStateException {
         courseAt(course);
         checkMark(mark);
         checkFormulaFits(0);
         return keep(new MarkFormula(course, mark));
     }
 
-    public int togetherFormula(int course) {
+    public int togetherFormula(int course) throws IndexOutOfBoundsException, IllegalStateException {
         courseAt(course);
         checkFormulaFits(0);
         return keep(new TogetherFormula(course));
     }
 
-    public int creditsFormula(int credits) {
+    public int creditsFormula(int credits) throws IllegalArgumentException, IllegalStateException {
         if (!isWithin(credits, 0, MOST_ASKED_CREDITS)) {
             throw new IllegalArgumentException("the credits are out of range");
         }
@@ -138,38 +141,39 @@ public final class Prereqs {
         return keep(new CreditsFormula(credits));
     }
 
-    public int allFormula(int first, int second) {
+    public int allFormula(int first, int second) throws NoSuchElementException, IllegalStateException {
         int depth = 1 + Math.max(formulaAt(first).depth, formulaAt(second).depth);
         checkFormulaFits(depth);
         return keep(new CountFormula(depth, 2, first, second, NOTHING));
     }
 
-    public int anyFormula(int first, int second) {
+    public int anyFormula(int first, int second) throws NoSuchElementException, IllegalStateException {
         int depth = 1 + Math.max(formulaAt(first).depth, formulaAt(second).depth);
         checkFormulaFits(depth);
         return keep(new CountFormula(depth, 1, first, second, NOTHING));
     }
 
-    public int twoFormula(int first, int second, int third) {
+    public int twoFormula(int first, int second, int third)
+            throws NoSuchElementException, IllegalStateException {
         int ofTwo = Math.max(formulaAt(first).depth, formulaAt(second).depth);
         int depth = 1 + Math.max(ofTwo, formulaAt(third).depth);
         checkFormulaFits(depth);
         return keep(new CountFormula(depth, 2, first, second, third));
     }
 
-    public int noneFormula(int part) {
+    public int noneFormula(int part) throws NoSuchElementException, IllegalStateException {
         int depth = 1 + formulaAt(part).depth;
         checkFormulaFits(depth);
         return keep(new NoneFormula(depth, part));
     }
 
-    public boolean holds(int student, int formula) {
+    public boolean holds(int student, int formula) throws IndexOutOfBoundsException, NoSuchElementException {
         Student asked = studentAt(student);
         formulaAt(formula);
         return isMet(formula, truthsFor(asked));
     }
 
-    public boolean require(int course, int formula) {
+    public boolean require(int course, int formula) throws IndexOutOfBoundsException, NoSuchElementException {
         Course requiring = courseAt(course);
         formulaAt(formula);
         boolean had = requiring.requisite != NOTHING;
@@ -178,7 +182,7 @@ public final class Prereqs {
         return had;
     }
 
-    public boolean lift(int course) {
+    public boolean lift(int course) throws IndexOutOfBoundsException {
         Course freed = courseAt(course);
         boolean had = freed.requisite != NOTHING;
         freed.requisite = NOTHING;
@@ -188,7 +192,7 @@ public final class Prereqs {
 
     // Days
 
-    public int pass(int days) {
+    public int pass(int days) throws IllegalArgumentException, IllegalStateException {
         if (days < 1) {
             throw new IllegalArgumentException("at least one day must pass");
         }
@@ -215,7 +219,9 @@ public final class Prereqs {
 
     // Enrollment
 
-    public char enroll(int student, int course) {
+    public char enroll(int student, int course)
+            throws IndexOutOfBoundsException, IllegalStateException, IllegalArgumentException,
+            UnsupportedOperationException, ArithmeticException, NoSuchElementException {
         Student comer = studentAt(student);
         Course wanted = courseAt(course);
         char letter = letterFor(comer, wanted);
@@ -243,12 +249,13 @@ public final class Prereqs {
         return letter;
     }
 
-    public char outcome(int student, int course) {
+    public char outcome(int student, int course) throws IndexOutOfBoundsException {
         Student comer = studentAt(student);
         return letterFor(comer, courseAt(course));
     }
 
-    public char drop(int student, int course) {
+    public char drop(int student, int course)
+            throws IndexOutOfBoundsException, NoSuchElementException, IllegalStateException {
         Student leaver = studentAt(student);
         Course left = courseAt(course);
         boolean isTaking = leaver.taking[course];
@@ -270,7 +277,9 @@ public final class Prereqs {
         return isWithdrawalDay() ? 'w' : 'd';
     }
 
-    public int swap(int student, int from, int to) {
+    public int swap(int student, int from, int to)
+            throws IndexOutOfBoundsException, IllegalStateException, NoSuchElementException,
+            IllegalArgumentException, UnsupportedOperationException, ArithmeticException {
         Student swapper = studentAt(student);
         courseAt(from);
         Course wanted = courseAt(to);
@@ -306,7 +315,9 @@ public final class Prereqs {
 
     // Marks and records
 
-    public boolean mark(int student, int course, int mark) {
+    public boolean mark(int student, int course, int mark)
+            throws IndexOutOfBoundsException, NoSuchElementException, IllegalArgumentException,
+            IllegalStateException {
         Student marked = studentAt(student);
         courseAt(course);
         if (!marked.taking[course]) {
@@ -321,7 +332,7 @@ public final class Prereqs {
         return had;
     }
 
-    public int endTerm() {
+    public int endTerm() throws IllegalStateException {
         if (day < FIRST_MARK_DAY) {
             throw new IllegalStateException("the days of marks have not come");
         }
@@ -334,7 +345,8 @@ public final class Prereqs {
         return added;
     }
 
-    public int moveIn(int student, int course) {
+    public int moveIn(int student, int course)
+            throws IndexOutOfBoundsException, IllegalArgumentException, ArithmeticException {
         Student mover = studentAt(student);
         Course moved = courseAt(course);
         if (mover.hasPassed(course)) {
@@ -349,7 +361,7 @@ public final class Prereqs {
         return sum;
     }
 
-    public int bestMark(int student, int course) {
+    public int bestMark(int student, int course) throws IndexOutOfBoundsException, NoSuchElementException {
         Student asked = studentAt(student);
         courseAt(course);
         if (asked.best[course] == NOTHING) {
@@ -358,13 +370,13 @@ public final class Prereqs {
         return asked.best[course];
     }
 
-    public int attempts(int student, int course) {
+    public int attempts(int student, int course) throws IndexOutOfBoundsException {
         Student asked = studentAt(student);
         courseAt(course);
         return asked.tries[course];
     }
 
-    public int earnedCredits(int student) {
+    public int earnedCredits(int student) throws IndexOutOfBoundsException {
         return creditsEarned(studentAt(student));
     }
 
@@ -376,7 +388,7 @@ public final class Prereqs {
         return sum;
     }
 
-    public double average(int student) {
+    public double average(int student) throws IndexOutOfBoundsException, ArithmeticException {
         Student asked = studentAt(student);
         int sum = 0;
         int credits = 0;
@@ -396,25 +408,25 @@ public final class Prereqs {
 
     // Loads, seats and waiting lists
 
-    public int load(int student) {
+    public int load(int student) throws IndexOutOfBoundsException {
         return loadOn(studentAt(student));
     }
 
-    public boolean isEnrolled(int student, int course) {
+    public boolean isEnrolled(int student, int course) throws IndexOutOfBoundsException {
         Student asked = studentAt(student);
         courseAt(course);
         return asked.taking[course];
     }
 
-    public int enrolled(int course) {
+    public int enrolled(int course) throws IndexOutOfBoundsException {
         return takersOf(courseAt(course));
     }
 
-    public int waiting(int course) {
+    public int waiting(int course) throws IndexOutOfBoundsException {
         return courseAt(course).waiting.size();
     }
 
-    public int placeOf(int student, int course) {
+    public int placeOf(int student, int course) throws IndexOutOfBoundsException, NoSuchElementException {
         Student asked = studentAt(student);
         int place = courseAt(course).placeFor(asked);
         if (place == NOTHING) {
@@ -423,29 +435,31 @@ public final class Prereqs {
         return place;
     }
 
-    public int freeSeats(int course, int major) {
+    public int freeSeats(int course, int major) throws IndexOutOfBoundsException, IllegalArgumentException {
         Course asked = courseAt(course);
         checkMajor(major);
         return freeFor(asked, major);
     }
 
-    public float share(int course) {
+    public float share(int course) throws IndexOutOfBoundsException {
         Course asked = courseAt(course);
         return (float) takersOf(asked) / (float) asked.seats;
     }
 
     // Reasons and plans
 
-    public int whyNot(int student, int course) {
+    public int whyNot(int student, int course)
+            throws IndexOutOfBoundsException, NoSuchElementException, IllegalStateException {
         int length = fillReason(student, course);
         return reason[length - 1];
     }
 
-    public int whyLong(int student, int course) {
+    public int whyLong(int student, int course)
+            throws IndexOutOfBoundsException, NoSuchElementException, IllegalStateException {
         return fillReason(student, course);
     }
 
-    public int termsTo(int course) {
+    public int termsTo(int course) throws IndexOutOfBoundsException, NoSuchElementException {
         courseAt(course);
         newcomer.forgetRecord();
         for (int terms = 1; terms <= MOST_COURSES; terms++) {
@@ -457,12 +471,12 @@ public final class Prereqs {
         throw new NoSuchElementException("the course is never passed");
     }
 
-    public int transcriptLength(int student) {
+    public int transcriptLength(int student) throws IndexOutOfBoundsException {
         transcript.write(studentAt(student), courses.size());
         return transcript.length;
     }
 
-    public char transcriptAt(int student, int index) {
+    public char transcriptAt(int student, int index) throws IndexOutOfBoundsException {
         transcript.write(studentAt(student), courses.size());
         if (index < 0 || index >= transcript.length) {
             throw new IndexOutOfBoundsException("there is no such character");
@@ -472,7 +486,7 @@ public final class Prereqs {
 
     // Audits
 
-    public int addRule(int major, int need, int mark) {
+    public int addRule(int major, int need, int mark) throws IllegalArgumentException, IllegalStateException {
         checkMajor(major);
         checkMark(mark);
         if (!isWithin(need, 1, MOST_NEED)) {
@@ -485,7 +499,7 @@ public final class Prereqs {
         return rules.size() - 1;
     }
 
-    public boolean allow(int rule, int course) {
+    public boolean allow(int rule, int course) throws NoSuchElementException, IndexOutOfBoundsException {
         Rule allowing = ruleAt(rule);
         courseAt(course);
         boolean isNew = !allowing.allowed[course];
@@ -493,33 +507,33 @@ public final class Prereqs {
         return isNew;
     }
 
-    public int mostMet(int student) {
+    public int mostMet(int student) throws IndexOutOfBoundsException {
         audit.open(rules, studentAt(student), false);
         return audit.giveAll();
     }
 
-    public int mostMetByTrial(int student) {
+    public int mostMetByTrial(int student) throws IndexOutOfBoundsException {
         audit.open(rules, studentAt(student), false);
         return audit.tryAll();
     }
 
-    public int mostMetIf(int student) {
+    public int mostMetIf(int student) throws IndexOutOfBoundsException {
         audit.open(rules, studentAt(student), true);
         return audit.giveAll();
     }
 
-    public int lackingRules(int student) {
+    public int lackingRules(int student) throws IndexOutOfBoundsException {
         audit.open(rules, studentAt(student), false);
         audit.giveAll();
         return audit.shortRules();
     }
 
-    public int lackingByTrial(int student) {
+    public int lackingByTrial(int student) throws IndexOutOfBoundsException {
         audit.open(rules, studentAt(student), false);
         return audit.shortRulesByTrial(audit.tryAll());
     }
 
-    public int ruleFor(int student, int course) {
+    public int ruleFor(int student, int course) throws IndexOutOfBoundsException, NoSuchElementException {
         Student asked = studentAt(student);
         courseAt(course);
         audit.open(rules, asked, false);
@@ -530,7 +544,7 @@ public final class Prereqs {
         return rule;
     }
 
-    public int setDegree(int major, int credits) {
+    public int setDegree(int major, int credits) throws IllegalArgumentException {
         checkMajor(major);
         if (!isWithin(credits, 0, MOST_ASKED_CREDITS)) {
             throw new IllegalArgumentException("the credits are out of range");
@@ -540,7 +554,7 @@ public final class Prereqs {
         return before;
     }
 
-    public boolean canGraduate(int student) {
+    public boolean canGraduate(int student) throws IndexOutOfBoundsException {
         Student asked = studentAt(student);
         audit.open(rules, asked, false);
         // All best matches give as many courses, so one without a short rule tells of all.
