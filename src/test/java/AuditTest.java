@@ -143,6 +143,39 @@ public final class AuditTest {
         dueRules("each gives on", x, 3, 0, 1, 2);
     }
 
+    /** Courses are given in the order of their numbers, so the third and the fourth move what was given. */
+    private static void givingOnTwice() {
+        Prereqs x = office(5, 5);
+        rule(x, 0, 1, 0, 0, 1, 2);
+        rule(x, 0, 1, 0, 0, 3);
+        rule(x, 0, 1, 0, 1, 4);
+        rule(x, 0, 1, 0, 0);
+        dueMet("the first gives on twice", x, 4, 0);
+        dueRules("the first gives on twice", x, 3, 0, -1, 1, 2);
+    }
+
+    private static void enrollmentsAreNoAttempts() {
+        Prereqs x = office(4, 1);
+        rule(x, 0, 2, 0, 0, 1);
+        x.enroll(0, 1);
+        Check.due("49: asked first", x.lackingRules(0), 1);
+        dueMet("one passed, one enrolled", x, 1, 1);
+        dueRules("one passed, one enrolled", x, 0, -1, -1, -1);
+        Check.due("53: not yet", x.canGraduate(0), false);
+        Check.due("48: by then", x.mostMetIf(0), 2);
+    }
+
+    private static void lackingOfOneStudentAfterAnother() {
+        Prereqs x = office(4, 2);
+        rule(x, 0, 2, 0, 0, 1);
+        rule(x, 1, 1, 0, 3);
+        Check.due("49: none", x.lackingRules(0), 0);
+        Check.due("49: of the next", x.lackingRules(1), 2);
+        Check.due("49: none again", x.lackingRules(0), 0);
+        Check.due("50: of the next", x.lackingByTrial(1), 2);
+        Check.due("50: none again", x.lackingByTrial(0), 0);
+    }
+
     private static void shortInSomeBestMatch() {
         Prereqs x = office(4, 3);
         rule(x, 0, 2, 0, 0, 1);
@@ -252,6 +285,9 @@ public final class AuditTest {
         marksThatCount();
         oneCourseForOneRule();
         longWayOfGivingOn();
+        givingOnTwice();
+        enrollmentsAreNoAttempts();
+        lackingOfOneStudentAfterAnother();
         shortInSomeBestMatch();
         fullInAllBestMatches();
         needsOfThree();

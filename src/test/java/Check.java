@@ -27,8 +27,16 @@ final class Check {
         try {
             return call.answer();
         } catch (RuntimeException thrown) {
-            return thrown.getClass().getSimpleName();
+            return nameOf(thrown);
         }
+    }
+
+    /** Prereqs throws by its own code alone; what a list or the machine throws in it is told apart. */
+    static String nameOf(Throwable thrown) {
+        StackTraceElement[] trace = thrown.getStackTrace();
+        boolean isOwn = trace.length > 0 && trace[0].getClassName().startsWith("Prereqs")
+                && !"/ by zero".equals(thrown.getMessage());
+        return (isOwn ? "" : "not its own ") + thrown.getClass().getSimpleName();
     }
 
     static void end() {

@@ -465,6 +465,15 @@ public final class EnrollmentTest {
         Check.dueThrow("37: major -1", ARGUMENT, () -> x.freeSeats(0, -1));
     }
 
+    private static void freeSeatsBesideMajorZero() {
+        Prereqs x = office(1, 1, 5);
+        x.reserve(0, 0, 2);
+        Check.due("37: 5 - 2 of major 0", x.freeSeats(0, 3), 3);
+        x.enroll(0, 0);
+        Check.due("37: 4 - 1 of major 0", x.freeSeats(0, 1), 3);
+        Check.due("37: for major 0", x.freeSeats(0, 0), 4);
+    }
+
     private static void freeSeatsAreNeverLess() {
         Prereqs x = office(2, 1, 2);
         x.enroll(0, 0);
@@ -525,6 +534,7 @@ public final class EnrollmentTest {
         lowestCourseGivesFirst();
         aSeatLetsIntoALowerCourse();
         freeSeats();
+        freeSeatsBesideMajorZero();
         freeSeatsAreNeverLess();
         enrolledAndShare();
         Check.end();

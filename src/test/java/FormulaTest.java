@@ -154,6 +154,17 @@ public final class FormulaTest {
         Check.dueThrow("13: depth 5 is a depth", STATE, () -> x.noneFormula(8));
     }
 
+    private static void depthsOfAllBeginnings() {
+        for (int kind = 0; kind < 3; kind++) {
+            Prereqs x = office();
+            Check.due("13: first", kind == 0 ? x.markFormula(0, 0) : kind == 1 ? x.togetherFormula(0) : x.creditsFormula(0), 0);
+            for (int depth = 1; depth <= 5; depth++) {
+                Check.due("13: depth " + depth, x.noneFormula(depth - 1), depth);
+            }
+            Check.dueThrow("13: depth 6", STATE, () -> x.noneFormula(5));
+        }
+    }
+
     private static void sixtyFormulas() {
         Prereqs x = office();
         for (int formula = 0; formula < 60; formula++) {
@@ -332,6 +343,7 @@ public final class FormulaTest {
         parts();
         partsThatAreNot();
         depths();
+        depthsOfAllBeginnings();
         sixtyFormulas();
         holds();
         requireAndLift();

@@ -6,6 +6,7 @@ import java.util.Map;
 import java.util.NoSuchElementException;
 import java.util.Set;
 import java.util.TreeSet;
+import java.util.stream.IntStream;
 
 /**
  * The document told once more in the plainest way, with lists, recursion and all matches one by one, so
@@ -663,8 +664,17 @@ public final class NaiveOffice {
                     && best != null && best >= 50 && best >= asked.mark;
         }
 
+        private int countingFrom(int firstCourse) {
+            int count = 0;
+            for (int course = firstCourse; course < courses.size(); course++) {
+                int asked = course;
+                count += IntStream.range(0, rules.size()).anyMatch(rule -> counts(asked, rule)) ? 1 : 0;
+            }
+            return count;
+        }
+
         private void walk(int course, boolean isSecondWalk) {
-            int possible = current.size() + courses.size() - course;
+            int possible = current.size() + countingFrom(course);
             if (isSecondWalk ? possible < most : possible <= most) {
                 return;
             }

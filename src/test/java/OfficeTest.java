@@ -117,6 +117,7 @@ public final class OfficeTest {
         Check.due("6: unchanged by what throws", x.reserve(0, 1, 2), 2);
         Check.due("6: none", x.reserve(0, 1, 0), 2);
         Check.due("6: exactly all", x.reserve(0, 0, 2), 0);
+        Check.dueThrow("6: those of major 0 count", STATE, () -> x.reserve(0, 1, 1));
         Check.dueThrow("6: course", INDEX, () -> x.reserve(2, 9, -1));
         Check.dueThrow("6: course -1", INDEX, () -> x.reserve(-1, 0, 0));
         Check.dueThrow("6: major", ARGUMENT, () -> x.reserve(0, 4, 99));
@@ -177,12 +178,16 @@ public final class OfficeTest {
         x.addStudent(0);
         x.enroll(0, 0);
         x.enroll(1, 0);
+        x.addStudent(0);
+        x.enroll(2, 0);
         x.pass(5);
-        Check.due("17: day 5 keeps the list", x.waiting(0), 1);
+        Check.due("17: day 5 keeps the list", x.waiting(0), 2);
+        x.drop(0, 0);
+        Check.due("17: day 5 still gives seats", x.isEnrolled(1, 0), true);
         x.pass(1);
         Check.due("17: day 6 empties it", x.waiting(0), 0);
-        x.drop(0, 0);
-        Check.due("17: no seat is given out", x.isEnrolled(1, 0), false);
+        x.drop(1, 0);
+        Check.due("17: no seat is given out", x.isEnrolled(2, 0), false);
     }
 
     public static void main(String[] arguments) {

@@ -104,7 +104,8 @@ public final class RandomRunsTest {
         try {
             return method.invoke(office, arguments);
         } catch (InvocationTargetException thrown) {
-            return thrown.getCause().getClass().getSimpleName();
+            Throwable cause = thrown.getCause();
+            return office instanceof Prereqs ? Check.nameOf(cause) : cause.getClass().getSimpleName();
         } catch (IllegalAccessException impossible) {
             throw new IllegalStateException(impossible);
         }
@@ -191,7 +192,7 @@ public final class RandomRunsTest {
         students = 0;
         formulas = 0;
         rules = 0;
-        setProfile((int) (run % 6));
+        setProfile((int) (run % 7));
     }
 
     /** Some cases come only where loads are heavy, where lists are long, or where terms fly by. */
@@ -200,11 +201,12 @@ public final class RandomRunsTest {
         boolean isHeavy = profile == 2;
         isHasty = profile == 3;
         isStudious = profile == 5;
-        mostCourses = isHasty ? 3 : isCrowded ? 2 + next(2) : isHeavy ? 9 : 3 + next(6);
+        boolean isFull = profile == 6;
+        mostCourses = isFull ? 20 : isHasty ? 3 : isCrowded ? 2 + next(2) : isHeavy ? 9 : 3 + next(6);
         leastCredits = isHeavy ? 3 : Integer.MIN_VALUE;
         mostCredits = isStudious ? 2 : 6;
         mostSeats = isCrowded ? 1 : profile == 4 ? 2 : 12;
-        leastStudents = isCrowded ? 12 : isHasty ? 3 : 2;
+        leastStudents = isCrowded || isFull ? 12 : isHasty ? 3 : 2;
     }
 
     private void setUp() {

@@ -254,6 +254,7 @@ public final class RecordTest {
         study(x, all);
         // 10 courses of 1 and 10 of 2 digits, 12 with a T, 18 with three marks of 100 and 2 with one.
         int due = 10 + 20 + 2 * 20 + 12 * 2 + 18 * 11 + 2 * 3;
+        Check.due("31: of 20 courses", x.average(0), 100.0);
         Check.due("42: very long", x.transcriptLength(0), due);
         Check.due("43: its last sign", x.transcriptAt(0, due - 1), ';');
         Check.due("43: the last mark begins", x.transcriptAt(0, due - 4), '1');

@@ -94,6 +94,9 @@ public final class SoundTest {
         Check.due("54: a load of 20", x.isSound(), false);
         setTaking(x, 0, 4, false);
         Check.due("54: a load of 15", x.isSound(), true);
+        x.addCourse(3, 1);
+        x.enroll(0, 5);
+        Check.due("54: a load of 18", x.isSound(), true);
     }
 
     private static void audits() {
