@@ -679,7 +679,7 @@ public final class Prereqs {
         do {
             reason[length] = next;
             length++;
-            next = formulas.get(next).partToBlame(truths);
+            next = formulaAt(next).partToBlame(truths);
         } while (next != NOTHING && length <= MOST_DEPTH);
         return length;
     }

@@ -154,6 +154,17 @@ public final class AuditTest {
         dueRules("the first gives on twice", x, 3, 0, -1, 1, 2);
     }
 
+    /** Course 2 comes to a rule by pushing course 1 on, and can leave it again in another best match. */
+    private static void shortThroughWhatWasGivenOn() {
+        Prereqs x = office(3, 3);
+        rule(x, 0, 1, 0, 1, 2);
+        rule(x, 0, 1, 0, 0, 2);
+        rule(x, 0, 1, 0, 1);
+        rule(x, 0, 1, 0, 0);
+        dueMet("each can be the short one", x, 3, 15);
+        dueRules("each can be the short one", x, 1, 2, 0);
+    }
+
     private static void enrollmentsAreNoAttempts() {
         Prereqs x = office(4, 1);
         rule(x, 0, 2, 0, 0, 1);
@@ -286,6 +297,7 @@ public final class AuditTest {
         oneCourseForOneRule();
         longWayOfGivingOn();
         givingOnTwice();
+        shortThroughWhatWasGivenOn();
         enrollmentsAreNoAttempts();
         lackingOfOneStudentAfterAnother();
         shortInSomeBestMatch();
