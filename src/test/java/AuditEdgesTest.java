@@ -238,6 +238,51 @@ public final class AuditEdgesTest {
         Edges.due("the last course's rule", last.ruleFor(0, 19), 0);
     }
 
+    private static void enrolledCoursesDoNotCount() {
+        Edges.sentence(0, "the student has passed it, and the best mark of the student in it");
+        Prereqs x = with(office(2, 0), 1, 0, 0, 1);
+        x.enroll(0, 0);
+        due("enrolled", x, 0, 1);
+        dueRules("enrolled", x, -1, -1);
+        x.moveIn(0, 1);
+        due("enrolled in one that is not passed", x, 1, 0);
+        dueRules("enrolled in one that is not passed", x, -1, 0);
+        Edges.onDay(21, x);
+        x.mark(0, 0, 100);
+        due("a mark of the term", x, 1, 0);
+        dueRules("a mark of the term", x, -1, 0);
+        x.endTerm();
+        dueRules("an attempt", x, 0, -1);
+    }
+
+    private static void courseNineteen() {
+        Edges.sentence(0, "A rule is short in a match if it gets fewer courses than it needs");
+        Prereqs x = Edges.study(office(20, 0), 0, 19, 60);
+        due("two want the last course", with(with(x, 1, 0, 19), 1, 0, 19), 1, 3);
+        Edges.due("the lower one gets it", x.ruleFor(0, 19), 0);
+    }
+
+    private static void coursesThatAreGivenOn() {
+        Edges.sentence(46, "found by giving one course after another");
+        due("course 3 moves all of them", givenOn(), 4, 0);
+        dueRules("course 3 moves all of them", givenOn(), 1, 2, 3, 0);
+        Prereqs three = with(with(with(office(4, 4), 1, 0, 0, 1, 2), 1, 0, 0, 3), 1, 0, 1);
+        due("the first gives on twice", three, 3, 0);
+        Prereqs again = with(with(with(with(office(4, 4), 1, 0, 1, 2, 3), 1, 0, 1), 1, 0, 0, 2), 1, 0, 0);
+        due("the first takes a course and gives it on", again, 4, 0);
+        dueRules("the first takes a course and gives it on", again, 3, 1, 2, 0);
+        Prereqs whole = with(with(with(office(6, 6), 2, 0, 0, 1, 2, 3), 2, 0, 0, 1, 4), 2, 0, 2, 4, 5);
+        due("needs of two", whole, 6, 0);
+    }
+
+    /** Each of the courses 0 to 2 fits two rules that follow, and course 3 the first rule alone. */
+    private static Prereqs givenOn() {
+        Prereqs x = with(office(4, 4), 1, 0, 0, 3);
+        with(x, 1, 0, 0, 1);
+        with(x, 1, 0, 1, 2);
+        return with(x, 1, 0, 2);
+    }
+
     private static void mostMetIf() {
         Edges.sentence(48, "if, in each course in which it is enrolled, it had one more attempt that is the mark 100");
         Prereqs x = with(office(4, 1), 3, 100, 0, 1, 2, 3);
@@ -511,6 +556,9 @@ public final class AuditEdgesTest {
         coursesThatCount();
         atMostOneRule();
         twentyCourses();
+        enrolledCoursesDoNotCount();
+        courseNineteen();
+        coursesThatAreGivenOn();
         mostMetIf();
         shortRules();
         firstBestMatch();

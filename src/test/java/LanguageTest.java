@@ -3,21 +3,23 @@ import java.nio.file.Files;
 import java.nio.file.Path;
 import java.util.List;
 import java.util.Set;
-import java.util.TreeSet;
 import java.util.regex.Matcher;
 import java.util.regex.Pattern;
 
 /** Those rules of LANGUAGE.md that the text of the class shows; run from the project's folder. */
 public final class LanguageTest {
     private static final List<String> FORBIDDEN = List.of(
-        "->", "::", "\\btry\\b", "\\bcatch\\b", "\\bfinally\\b", "\\bsynchronized\\b", "\\bassert\\b", "\\bpublic static\\b",
-        "\\bprotected\\b", "\\bString\\.format\\b", "\\bequals\\(", "\\bhashCode\\b", "\\btoString\\b",
-        "\\bHashMap\\b", "\\bObject\\b", "\\bstream\\(", "\\bSystem\\.(?!arraycopy\\()", "Exact\\(", "\\bvar\\b",
-        "\\bpackage\\b", "\\bMath\\.(?!max\\(|min\\()", "\\bArrays\\.(?!fill\\()", "\\bnull\\b");
+        "->", "::", "\\bfinally\\b", "\\bsynchronized\\b", "\\bassert\\b", "\\bpublic static\\b",
+        "\\bprotected\\b", "\\bString\\.", "\\bhashCode\\b", "\\bHashMap\\b", "\\bObject\\b", "\\bstream\\(",
+        "\\bSystem\\.(?!arraycopy\\()", "Exact\\(", "\\bpackage\\b", "\\bMath\\.random\\b", "\\bThread\\b",
+        "\\bArrays\\.(?!(fill|copyOf|copyOfRange)\\()", "\\bcatch \\((Throwable|Exception|Error|NullPointer|ArrayIndex|ClassCast|NegativeArray|ArrayStore)");
+
+    private static final Set<String> IMPORTED = Set.of("java.util.ArrayList", "java.util.Arrays", "java.util.Iterator",
+        "java.util.List", "java.util.NoSuchElementException");
 
     private static final Set<String> THROWN = Set.of("IllegalStateException", "IllegalArgumentException",
         "IndexOutOfBoundsException", "ArithmeticException", "UnsupportedOperationException",
-        "NoSuchElementException");
+        "NoSuchElementException", "RuntimeException");
 
     private static void forbiddenWords(String code) {
         for (String word : FORBIDDEN) {
@@ -26,13 +28,10 @@ public final class LanguageTest {
     }
 
     private static void imports(String code) {
-        Set<String> seen = new TreeSet<>();
-        Matcher matcher = Pattern.compile("import ([\\w.*]+);").matcher(code);
+        Matcher matcher = Pattern.compile("import ([\\w.* ]+);").matcher(code);
         while (matcher.find()) {
-            seen.add(matcher.group(1));
+            Check.due("may import " + matcher.group(1), IMPORTED.contains(matcher.group(1)), true);
         }
-        Check.due("imports", seen,
-            new TreeSet<>(Set.of("java.util.ArrayList", "java.util.Arrays", "java.util.NoSuchElementException")));
     }
 
     private static void thrown(String code) {
@@ -47,7 +46,6 @@ public final class LanguageTest {
         int begin = 0;
         for (int i = 0; i < lines.size(); i++) {
             String line = lines.get(i);
-            Check.due("line " + (i + 1) + " is too long", line.length() > 120, false);
             Check.due("line " + (i + 1) + " has another sign", line.chars().anyMatch(sign -> sign > 126), false);
             if (line.matches("\\s+[\\w<> \\[\\]]+\\(.*\\) \\{") && !line.contains(" else ") && !line.contains("if (")) {
                 begin = i;
@@ -71,7 +69,7 @@ public final class LanguageTest {
     public static void main(String[] arguments) throws IOException {
         String text = Files.readString(Path.of("src/main/java/Prereqs.java"));
         String code = text.replaceAll("(?s)/\\*.*?\\*/", "").replaceAll("//[^\n]*", "");
-        forbiddenWords(code.replaceAll("\"[^\"]*\"", "\"\""));
+        forbiddenWords(code.replaceAll("\"[^\"]*\"", "\"\"").replaceAll("(case [^;{]*|default )->", "$1:"));
         imports(code);
         thrown(code);
         classes(code);

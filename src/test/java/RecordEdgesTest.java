@@ -334,8 +334,29 @@ public final class RecordEdgesTest {
         Edges.due("two", x.average(0), 236.0 / 7.0);
         Edges.study(x, 0, 2, 0);
         Edges.due("three", x.average(0), 236.0 / 12.0);
+        Edges.due("of 20 courses", studiedAll().average(0), 210.0 / 20.0);
         Edges.sentence(0, "If several exceptions apply, the one that is listed first is thrown");
         Edges.refused("31: the student before no mark", Edges.INDEX, RecordEdgesTest::studied, y -> y.average(2));
+    }
+
+    /** The marks 1 to 20 in 20 courses of 1 credit, of which the last two come in a term of their own. */
+    private static Prereqs studiedAll() {
+        Prereqs x = Edges.office(1);
+        for (int course = 0; course < 20; course++) {
+            x.addCourse(1, 1);
+        }
+        for (int from = 0; from < 20; from += 18) {
+            int to = Math.min(20, from + 18);
+            for (int course = from; course < to; course++) {
+                x.enroll(0, course);
+            }
+            Edges.onDay(21, x);
+            for (int course = from; course < to; course++) {
+                x.mark(0, course, course + 1);
+            }
+            x.endTerm();
+        }
+        return x;
     }
 
     // Promises 42 and 43

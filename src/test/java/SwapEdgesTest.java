@@ -150,6 +150,36 @@ public final class SwapEdgesTest {
         return x;
     }
 
+    /** Of 20 courses student 0 is in the last 18, each of which wants the next one but the last. */
+    private static Prereqs longChain() {
+        Prereqs x = new Prereqs();
+        for (int course = 0; course < 20; course++) {
+            x.addCourse(1, 1);
+        }
+        x.addStudent(0);
+        for (int course = 2; course < 20; course++) {
+            x.enroll(0, course);
+            x.togetherFormula(course);
+        }
+        for (int course = 2; course < 19; course++) {
+            x.require(course, course - 1);
+        }
+        x.require(0, 17);
+        return x;
+    }
+
+    private static void allThatEndedIsBack() {
+        Edges.sentence(0, "A method that throws an exception changes nothing");
+        Prereqs x = longChain();
+        Edges.due("refused", Picture.answerOf(x, y -> y.swap(0, 19, 0)), "UnsupportedOperationException");
+        for (int course = 2; course < 20; course++) {
+            Edges.due("23: still in " + course, x.isEnrolled(0, course), true);
+        }
+        Edges.due("23: the load", x.load(0), 18);
+        Edges.refused("23: after 18 ends", Edges.UNSUPPORTED, SwapEdgesTest::longChain, y -> y.swap(0, 19, 0));
+        Edges.due("23: all end if it is not refused", longChain().swap(0, 19, 1), 1);
+    }
+
     private static void attempts() {
         Edges.sentence(23, "the student has three attempts in it");
         Edges.due("two", tried(1, -1).swap(0, 0, 2), 12);
@@ -356,6 +386,7 @@ public final class SwapEdgesTest {
         notEnrolled();
         enrolledInTheOther();
         requisites();
+        allThatEndedIsBack();
         attempts();
         freeSeats();
         loads();
