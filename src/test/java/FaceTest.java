@@ -50,7 +50,14 @@ public final class FaceTest {
                 Check.due(method + " is of an object", Modifier.isStatic(method.getModifiers()), false);
             }
         }
-        Check.due("the methods", seen, documentFace());
+        Set<String> face = documentFace();
+        Check.due("how many methods the document's face has", face.size(), 53);
+        for (String line : face) {
+            Check.due("the class has " + line, seen.contains(line), true);
+        }
+        for (String line : seen) {
+            Check.due("the document's face has " + line, face.contains(line), true);
+        }
         for (Method method : Prereqs.class.getDeclaredMethods()) {
             boolean clashes = Modifier.isPrivate(method.getModifiers()) && publicNames.contains(method.getName());
             Check.due(method + " bears a name of the face", clashes, false);
